@@ -38,6 +38,9 @@ public final class BeaconDelay {
     private static final int BARE_WHY = 2;
 
     private static final int[] POWER = {1, 10, 100, 1000, 10000};
+    // By how many HILLS there are, what can be by ROWS at most: what is now, and behind a NIGHT of the
+    // first HILL a digit for each STACK it had, of the others nine (who TOOK has not all 4).
+    private static final int[] MOST_MET = {1, 6, 46, 406, 3646};
 
     // The codes of a law's steps; what is less than NAMES is a number itself.
     private static final int NAMES = 1000;
@@ -441,9 +444,8 @@ public final class BeaconDelay {
 
     /** What can be by ROWS of so many NIGHTS from now on; kept till something else is now. */
     private Ways waysFromNow(int howMany) {
-        int size = POWER[coast.hills];
-        if (ways == null || ways.size < size) {
-            ways = new Ways(laws, size);
+        if (ways == null || ways.mostHills < coast.hills) {
+            ways = new Ways(laws, coast.hills);
         }
         ways.begin(coast.hills, standing, weather);
         ways.reachTo(howMany);
@@ -1490,6 +1492,7 @@ public final class BeaconDelay {
      * level and DEEDS in their order, so the first way to one is also the first of like ROWS.
      */
     private static final class Ways {
+        final int mostHills;
         final int size;
         final int[] met;
         final int[] level;
@@ -1507,12 +1510,13 @@ public final class BeaconDelay {
         private int weather;
         private int opened;
 
-        Ways(Laws laws, int size) {
+        Ways(Laws laws, int mostHills) {
             this.laws = laws;
-            this.size = size;
+            this.mostHills = mostHills;
+            size = MOST_MET[mostHills];
             met = new int[size];
             level = new int[size];
-            numberOf = new int[size];
+            numberOf = new int[POWER[mostHills]];
             from = new int[size];
             next = new int[size * DEEDS];
             queue = new int[size];
@@ -1540,7 +1544,7 @@ public final class BeaconDelay {
         }
 
         private int meet(int standing, int by, int deed, int atLevel) {
-            if (standing < 0 || standing >= size) {
+            if (standing < 0 || standing >= numberOf.length) {
                 return 0;
             }
             if (numberOf[standing] == 0 && count < size) {
@@ -1550,7 +1554,7 @@ public final class BeaconDelay {
                 count++;
                 numberOf[standing] = count;
             }
-            return numberOf[standing] - 1;
+            return Math.max(0, numberOf[standing] - 1);
         }
 
         /** Meets all that stands behind at most so many NIGHTS. */
@@ -1816,7 +1820,7 @@ public final class BeaconDelay {
         int fewest(Ways from, int h, int k) {
             sortComers(from);
             beginAt(from, h, k);
-            for (int i = 0; i < waiting && within[0] == NONE; i++) {
+            for (int i = 0; i < queue.length && i < waiting && within[0] == NONE; i++) {
                 lookBackFrom(queue[i]);
             }
             return within[0];
