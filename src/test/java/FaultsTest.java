@@ -81,6 +81,15 @@ public final class FaultsTest {
         is(head + "takes : [[[[[[[1 = 1;", 4, 30);
         is(head + "takes : not [ if (1) = 1 then (((if 1 = 1 then 1", 4, 16 + 33);
         is(head + "adds : ((((((not", 2, 29);
+        is(head + "adds : if if if if if if if 1 = 1", 4, 23 + 18);
+        is(head + "adds :" + " if 1 = 1 then".repeat(7), 4, 23 + 6 * 14);
+        is(head + "adds :" + " if 1 = 1 then 1 else".repeat(7), 4, 23 + 6 * 21);
+        is(head + "adds :" + " (1 +".repeat(7), 4, 23 + 6 * 5);
+        is(head + "takes : [1 = 1 and [1 = 1 or not [not (1 + if (", 4, 16 + 43);
+        is(head + "z", 2, 16);
+        is(head + "{", 1, 16);
+        is(head + "`", 1, 16);
+        is(head + "/", 1, 16);
         is(head + "adds : 0000;", 1, 23);
         is(head + "adds : 1", 2, 24);
         is(head + "adds : \u00e9;", 1, 23);

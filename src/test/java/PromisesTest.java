@@ -497,6 +497,15 @@ public final class PromisesTest {
         due("round 1", x.round(1), 2);
         x = Calls.coastOf("coast weather 0;hill stack 4 fear 0 took;");
         due("who took counts", x.round(0), 1);
+        // The first swings, the second counts by fives whenever it sees that: in each second night.
+        x = Calls.coastOf("coast weather 0;hill stack 1 fear 0;hill stack 3 fear 0;takes : hill = 0 and stack = 4;"
+                + "adds : if hill = 0 then stack + 1 else if seen = 1 then if stack = 4 then 0 else stack + 1 end else stack end end;");
+        due("round 0", x.round(0), 3);
+        due("round 1", x.round(1), 10);
+        due("lies 1 4", x.lies(1, 4), 3);
+        due("lies 1 5", x.lies(1, 5), 4);
+        due("lies 1 7", x.lies(1, 7), 0);
+        due("lies 1 99997", x.lies(1, 99997), 0);
         // Each hill counts by fives, and goes on in each night behind which the one west of it was at 4:
         // so the third goes on five times in a round of the second, and is where it was.
         x = Calls.coastOf("coast weather 0;hill stack 0 fear 0;hill stack 0 fear 0;hill stack 0 fear 0;"
@@ -564,6 +573,15 @@ public final class PromisesTest {
         due("way 1 0 1", x.way(1, 0, 1), 1);
         due("soonest 1 2", x.soonest(1, 2), 1);
         due("rows 1 0 3", x.rows(1, 0, 3), 3);
+        // The second comes to 1 by fog, none, fog alone.
+        x = Calls.coastOf("coast weather 0;hill stack 4 fear 0 took;hill stack 4 fear 0;hill stack 4 fear 0;"
+                + "takes : hill = 0;adds : if stack = 4 then 3 + seen else if stack = 3 then 4 - 2 * seen else 1 + 3 * seen end end;");
+        int[] row = {1, 0, 1, -1};
+        due("soonest 1 1", x.soonest(1, 1), 3);
+        for (int i = 0; i < 4; i++) {
+            due("way 1 1 " + i, x.way(1, 1, i), row[i]);
+        }
+        due("rows 1 1 3", x.rows(1, 1, 3), 2);
     }
 
     private static void rows() {
@@ -761,6 +779,32 @@ public final class PromisesTest {
         due("one weather: any night", x.attempt(0, 1), 0);
         Calls.tray(x, 0, 1);
         due("none", x.attempt(0, 0), -1);
+        // By fog the second is bare in all weathers, but in weather 0 its man took: STACKS alone are looked at.
+        x = Calls.coastOf("coast weather 0;hill stack 4 fear 0 took;hill stack 0 fear 0;"
+                + "takes : hill = 0 or seen = 0 and weather = 0;adds : seen;");
+        due("weathers", numbersAt(x, 3), 1023);
+        due("who took is not looked at", x.attempt(0, 0), 0);
+        // By fog all but weather 0 are alike (nine), without it all but 8 and 9 (eight).
+        x = Calls.coastOf("coast weather 0;hill stack 4 fear 0 took;hill stack 0 fear 0;"
+                + "takes : hill = 0;adds : if seen = 1 then if weather > 7 then 1 else 0 end else if weather > 0 then 1 else 0 end end;");
+        due("weathers", numbersAt(x, 3), 1023);
+        due("eight before nine", x.attempt(0, 0), 0);
+        // By fog five are alike and five others, without it 0 to 5, which are six.
+        x = Calls.coastOf("coast weather 0;hill stack 4 fear 0 took;hill stack 0 fear 0;"
+                + "takes : hill = 0;adds : if seen = 1 then if weather > 5 then 1 else 0 end else if weather > 4 then 1 else 0 end end;");
+        due("weathers", numbersAt(x, 3), 1023);
+        due("five before six", x.attempt(0, 0), 1);
+        // By fog 0 to 3 are alike, which are four; without it 1 to 5, and five others.
+        x = Calls.coastOf("coast weather 0;hill stack 4 fear 0 took;hill stack 0 fear 0;"
+                + "takes : hill = 0;adds : if seen = 1 then if weather > 0 and weather < 6 then 1 else 0 end"
+                + " else if weather < 4 then 1 else if weather < 7 then 2 else 3 end end end;");
+        due("weathers", numbersAt(x, 3), 1023);
+        due("four before five", x.attempt(0, 0), 1);
+    }
+
+    private static int numbersAt(BeaconDelay x, long told) {
+        Calls.tray(x, 0, told);
+        return x.weathers(0, 0);
     }
 
     private static void forcesAndBest() {
@@ -880,6 +924,12 @@ public final class PromisesTest {
         due("the first can't be a deed", x.judge(0, 0), 0);
         x.numbers(0, 3, 0);
         due("no places", x.lists(0, 0), 0);
+        x = Calls.coastOf(PLAIN);
+        x.numbers(2, 0, 3);
+        due("lists", x.lists(2, 1), 3);
+        due("3 4 4: no fog in its gap at first", x.high(2, 1), 18);
+        due("lists", x.lists(2, 2), 3);
+        due("4 3 4: no fog where it would be told", x.high(2, 2), 12);
     }
 
     private static void imageAndRestore() {
